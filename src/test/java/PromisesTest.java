@@ -77,19 +77,23 @@ public final class PromisesTest {
         due.part("2 clear");
         RelationRows x = new RelationRows(5);
         due.is(0, x::clear);
+        x.kind(0, 1);
         x.kind(1, 2);
         due.is(0, x::clear);
+        due.is(0, () -> x.kind(0, 0));
         due.is(0, () -> x.kind(1, 3));
         x.relation(ONE_TO_ONE, NONE, NONE);
         x.condition(FAR, 0, NONE);
         x.set(0, 0, 1);
         x.set(0, 0, 2);
+        x.set(0, 0, 0);
         x.condition(TURNED, 1, NONE);
         due.is(3, x::clear);
         due.is(5, () -> x.of(0));
         due.is(0, () -> x.of(1));
         due.is(0, () -> x.of(2));
         due.noSuchElement(() -> x.pushed(0, 0));
+        due.is(0, () -> x.tally(0, 0));
         due.is(0, () -> x.tally(0, 1));
         due.is(0, () -> x.kind(1, 0));
         due.illegalArgument(() -> x.has(0, 0, 2));
@@ -262,6 +266,10 @@ public final class PromisesTest {
         pairs(x, 0, "03 14");
         due.is(0, () -> x.set(1, 4, 1));
         pushedPairs(x, "");
+        due.is(0, () -> x.set(0, 3, 0));
+        pairs(x, 0, "03 14 30");
+        due.is(0, () -> x.set(1, 0, 4));
+        pairs(x, 1, "04 30 41");
     }
 
     private static void setTwins() {
@@ -384,6 +392,9 @@ public final class PromisesTest {
         pairs(x, 0, "00 11 12 21 22 33");
         due.is(false, () -> x.drop(0, 0, 2));
         due.is(true, () -> x.drop(0, 2, 1));
+        pairs(x, 0, "00 11 22 33");
+        x.set(0, 0, 1);
+        due.is(true, () -> x.drop(0, 1, 0));
         pairs(x, 0, "00 11 22 33");
         due.illegalArgument(() -> x.drop(0, 4, 4));
         due.illegalArgument(() -> x.drop(0, 0, 4));
@@ -550,6 +561,10 @@ public final class PromisesTest {
         x.set(2, 0, 9);
         due.is(0, () -> x.length(2, 0, 0));
         due.is(1, () -> x.length(2, 0, 9));
+        due.is(NONE, () -> x.length(2, 5, 9));
+        x.set(2, 5, 0);
+        due.is(2, () -> x.length(2, 5, 9));
+        due.is(NONE, () -> x.length(2, 5, 20));
         x.drop(0, 20, 21);
         due.is(NONE, () -> x.length(0, 0, 39));
         due.is(20, () -> x.length(0, 0, 20));
@@ -642,6 +657,8 @@ public final class PromisesTest {
         small.relation(MANY_TO_MANY, NONE, NONE);
         small.set(1, 0, 0);
         due.is(41, () -> small.differ(0, 1));
+        small.drop(1, 0, 0);
+        due.is(0, () -> small.differ(0, 1));
         due.illegalArgument(() -> x.differ(0, 3));
         due.illegalArgument(() -> x.differ(3, 0));
         due.illegalArgument(() -> x.differ(-1, 0));
