@@ -54,7 +54,7 @@ final class Due {
     private static StackTraceElement placeOfTest() {
         StackTraceElement[] places = Thread.currentThread().getStackTrace();
         for (int k = 1; k < places.length; k++) {
-            if (!places[k].getClassName().startsWith("Due")) {
+            if (places[k].getClassName().endsWith("Test")) {
                 return places[k];
             }
         }

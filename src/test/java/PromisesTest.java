@@ -759,8 +759,10 @@ public final class PromisesTest {
 
     private static void pairs(RelationRows x, int relation, String want) {
         StringBuilder got = new StringBuilder();
-        for (int a = 0; a < x.of(0); a++) {
-            for (int b = 0; b < x.of(0); b++) {
+        // Asked once, as an object answers 512 calls only.
+        int things = x.of(0);
+        for (int a = 0; a < things; a++) {
+            for (int b = 0; b < things; b++) {
                 if (x.has(relation, a, b)) {
                     got.append(got.length() == 0 ? "" : " ").append(a).append(b);
                 }
@@ -771,7 +773,8 @@ public final class PromisesTest {
 
     private static void pushedPairs(RelationRows x, String want) {
         StringBuilder got = new StringBuilder();
-        for (int i = 0; i < x.of(2); i++) {
+        int count = x.of(2);
+        for (int i = 0; i < count; i++) {
             got.append(i == 0 ? "" : " ").append(x.pushed(i, 0)).append(x.pushed(i, 1));
         }
         due.same(want, got.toString(), "all pushed(i, which)");
