@@ -1128,6 +1128,21 @@ public final class BoundaryTermsTest {
             leader {0 1} {0 1 2} = IllegalState
             leader 3 {0 1 2 3} = IllegalState
             """);
+        script.run("Of several the first one in this order: leader, where the two KINDS are unlike", """
+            new 4
+            kind 2 1 = 0
+            kind 3 2 = 0
+            relation 3 0 1 = 0
+            relation 0 1 -1 = 1
+            relation 2 -1 1 = 2
+            condition 0 1 -1 = 3
+            condition 3 1 2 = 4
+            leader 0 {2 3} = IllegalArgument
+            leader 0 {0 1} = IllegalState
+            leader 1 {0 1 3} = IllegalArgument
+            leader 1 2 = IllegalState
+            leader {2 3 4} {0 1 2 3} = IllegalState
+            """);
         StringBuilder twelve = new StringBuilder("new 4\n");
         for (int k = 0; k < 12; k++) {
             twelve.append("relation 6 -1 -1 = " + k + "\n");

@@ -17,8 +17,13 @@ final class Due {
         try {
             return String.valueOf(call.answer());
         } catch (RuntimeException e) {
-            return "throws." + e.getClass().getSimpleName();
+            return (isOfTheMachine(e) ? "the machine " : "") + "throws." + e.getClass().getSimpleName();
         }
+    }
+
+    /** The class throws by itself alone; the machine names the index in what it throws, the class does not. */
+    private static boolean isOfTheMachine(RuntimeException e) {
+        return e instanceof ArrayIndexOutOfBoundsException && String.valueOf(e.getMessage()).startsWith("Index ");
     }
 
     void is(Object want, Call call) {

@@ -12,7 +12,7 @@ import java.util.TreeSet;
  */
 public final class ModelTest {
     private static final int RUNS = 1500;
-    private static final int CALLS = 320;
+    private static final int CALLS = 512;
     private static final int[] EDGES = {-1, -2, 40, 12, Integer.MIN_VALUE, Integer.MAX_VALUE};
 
     private static final Map<String, Integer> answered = new HashMap<>();
