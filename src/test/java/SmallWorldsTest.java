@@ -6,8 +6,8 @@ import java.util.Map;
 import java.util.TreeMap;
 
 /**
- * Worlds of two to four things, gone through whole: each set of pairs that a relation can come to,
- * and in it each call. What is due is no run of steps, as in ModelTest, but what the document says
+ * Worlds of two to four things: each set of pairs that a relation can come to (many to many among
+ * three things at most), and in it each call. What is due is no run of steps, as in ModelTest, but what the document says
  * of the pairs before and behind a call. Pair (a, b) is bit a * things + b of a set of pairs.
  */
 public final class SmallWorldsTest {
